@@ -1,0 +1,45 @@
+/** count: what there is of each kind; BAD for another number. */
+public final class Promise13CountTest {
+    private static Check check;
+
+    public static void main(String[] args) {
+        check = new Check("Promise13CountTest");
+        BlockSound x = new BlockSound();
+        due(x, "new", 0, 0, 0, 0, 0, 0);
+        x.settings(2, 2);
+        for (int t = 0; t < 7; t++) {
+            x.sample(t);
+        }
+        due(x, "told", 7, 0, 0, 0, 0, 0);
+        int size = x.write();
+        due(x, "written", 7, size, 4, 0, 0, 0);
+        x.take();
+        due(x, "taken", 7, size, 4, size, 0, 0);
+        x.read();
+        due(x, "read", 7, size, 4, 0, 6, 2);
+        x.feed(83);
+        x.feed(256);
+        due(x, "fed", 7, size, 4, 1, 6, 2);
+        x.read();
+        due(x, "read wrong", 7, size, 4, 0, 6, 2);
+        x.settings(1, 1);
+        due(x, "settings", 0, size, 4, 0, 6, 2);
+        x.write();
+        due(x, "written again", 0, 5, 0, 0, 6, 2);
+        x.take();
+        x.read();
+        due(x, "read again", 0, 5, 0, 0, 0, 1);
+        int[] others = {Integer.MIN_VALUE, -1, 6, 7, Integer.MAX_VALUE};
+        for (int other : others) {
+            check.due("count(" + other + ")", x.count(other), BlockSound.BAD);
+        }
+        check.due("BAD", BlockSound.BAD, -1);
+        check.end();
+    }
+
+    private static void due(BlockSound x, String when, int... counts) {
+        for (int what = 0; what < counts.length; what++) {
+            check.due(when + ": count(" + what + ")", x.count(what), counts[what]);
+        }
+    }
+}
