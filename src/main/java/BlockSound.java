@@ -34,8 +34,9 @@ public final class BlockSound {
 
     private final Sound told = new Sound(1, 16);
     private final StreamWriter writer = new StreamWriter();
-    private final ByteRow collected = new ByteRow();
-    private final StreamReader reader = new StreamReader(collected);
+    private final StreamReader reader = new StreamReader();
+    private final ByteRow written = writer.bits.bytes;
+    private final ByteRow collected = reader.bits.bytes;
 
     public BlockSound() {
     }
@@ -54,11 +55,11 @@ public final class BlockSound {
 
     public int write() {
         writer.compose(told);
-        return writer.bytes.size;
+        return written.size;
     }
 
     public int at(int i) {
-        return writer.bytes.byteAt(i);
+        return written.byteAt(i);
     }
 
     public int block(int i, int what) {
@@ -92,7 +93,7 @@ public final class BlockSound {
     }
 
     public int take() {
-        collected.copy(writer.bytes);
+        collected.copy(written);
         return collected.size;
     }
 
@@ -115,7 +116,7 @@ public final class BlockSound {
             case 0:
                 return told.size;
             case 1:
-                return writer.bytes.size;
+                return written.size;
             case 2:
                 return writer.blockCount;
             case 3:
@@ -316,13 +317,9 @@ public final class BlockSound {
 
     /** Puts bits behind one another into a row of bytes. */
     private static final class BitWriter {
-        private final ByteRow bytes;
+        private final ByteRow bytes = new ByteRow();
         private int pending;
         private int pendingBits;
-
-        BitWriter(ByteRow bytes) {
-            this.bytes = bytes;
-        }
 
         void restart() {
             bytes.clear();
@@ -364,13 +361,9 @@ public final class BlockSound {
 
     /** Reads bits one behind another from a row of bytes. */
     private static final class BitReader {
-        private final ByteRow bytes;
+        private final ByteRow bytes = new ByteRow();
         private int position;
         private int end;
-
-        BitReader(ByteRow bytes) {
-            this.bytes = bytes;
-        }
 
         void restart() {
             position = 0;
@@ -378,7 +371,7 @@ public final class BlockSound {
         }
 
         int bitHere() {
-            return bytes.byteAt(position >> 3) >> (7 - (position & 7)) & 1;
+            return position < end ? bytes.row[position >> 3] >> (7 - (position & 7)) & 1 : 0;
         }
 
         /** The next k bits as a number, or BAD where the bytes end before. */
@@ -411,8 +404,7 @@ public final class BlockSound {
     private static final class StreamWriter {
         private final Sound sound = new Sound(1, 16);
         private final Means means = new Means();
-        private final ByteRow bytes = new ByteRow();
-        private final BitWriter bits = new BitWriter(bytes);
+        private final BitWriter bits = new BitWriter();
         private final int[] functions = new int[MOST_SAMPLES];
         private final int[] ks = new int[MOST_SAMPLES];
         private final int[] rests = new int[LONGEST_BLOCK];
@@ -515,14 +507,10 @@ public final class BlockSound {
     /** What was read, and a draft beside it, since a wrong stream must leave what was read. */
     private static final class StreamReader {
         private final Means means = new Means();
-        private final BitReader bits;
+        private final BitReader bits = new BitReader();
         private Sound sound = new Sound(0, 0);
         private Sound draft = new Sound(0, 0);
         private int wrongBit = NOWHERE;
-
-        StreamReader(ByteRow bytes) {
-            bits = new BitReader(bytes);
-        }
 
         /** The bit at which the bytes are wrong, or NOWHERE: then the sound is theirs. */
         int parse() {
@@ -571,10 +559,14 @@ public final class BlockSound {
                 if (isRight() && !isSample(v)) {
                     wrongBit = first;
                 }
-                draft.setAt(place, v);
+                if (isRight()) {
+                    draft.setAt(place, v);
+                }
                 place += draft.channels;
             }
-            means.settle(i, draft);
+            if (isRight()) {
+                means.settle(i, draft);
+            }
         }
 
         private void parseFilling() {

@@ -18,13 +18,7 @@ public final class Promise06BlockTest {
     }
 
     private static BlockSound two() {
-        BlockSound x = new BlockSound();
-        x.settings(2, 2);
-        int[] samples = {0, 1, 0, 1, 9, 1};
-        for (int v : samples) {
-            x.sample(v);
-        }
-        return x;
+        return Told.of(2, 2, 0, 1, 0, 1, 9, 1);
     }
 
     private static void ordinary() {

@@ -12,18 +12,9 @@ public final class Promise07CostTest {
         check.end();
     }
 
-    private static BlockSound tell(int channels, int block, int... samples) {
-        BlockSound x = new BlockSound();
-        x.settings(channels, block);
-        for (int v : samples) {
-            x.sample(v);
-        }
-        return x;
-    }
-
     /** Block 1 of 10, 20 | 40, 35: the mean is (15 + 2) / 4. */
     private static void everyWay() {
-        BlockSound x = tell(1, 2, 10, 20, 40, 35);
+        BlockSound x = Told.of(1, 2, 10, 20, 40, 35);
         x.write();
         int[][] rests = {{36, 31}, {20, -5}, {10, -25}, {10, -35}};
         for (int f = 0; f < 4; f++) {
@@ -35,7 +26,7 @@ public final class Promise07CostTest {
     }
 
     private static void meanBlocks() {
-        BlockSound x = tell(1, 2, 0, 0);
+        BlockSound x = Told.of(1, 2, 0, 0);
         x.write();
         check.due("function", x.block(0, 1), 4);
         check.due("cost(0, 0, 0) of silence", x.cost(0, 0, 0), 9);
@@ -48,9 +39,9 @@ public final class Promise07CostTest {
         for (int t = 0; t < 64; t++) {
             samples[t] = t % 2 == 0 ? -32768 : 32767;
         }
-        BlockSound x = tell(1, 64, samples);
+        BlockSound x = Told.of(1, 64, samples);
         x.write();
-        // what is left over of function 3: -32768, 131071, -229373 + ... , then 262140 by turns
+        // told out here once more, in long numbers
         long due = 3 + 4;
         for (int t = 0; t < 64; t++) {
             int a = t > 0 ? samples[t - 1] : 0;
@@ -63,7 +54,7 @@ public final class Promise07CostTest {
     }
 
     private static void wrong() {
-        BlockSound x = tell(2, 4, 1, 2, 3, 4);
+        BlockSound x = Told.of(2, 4, 1, 2, 3, 4);
         check.due("cost before writing", x.cost(0, 0, 0), BlockSound.BAD);
         x.write();
         int[] edges = {Integer.MIN_VALUE, -1, 16, Integer.MAX_VALUE};
@@ -77,7 +68,7 @@ public final class Promise07CostTest {
     }
 
     private static void written() {
-        BlockSound x = tell(1, 2, 10, 20, 40, 35);
+        BlockSound x = Told.of(1, 2, 10, 20, 40, 35);
         x.write();
         int before = x.cost(1, 2, 3);
         x.settings(2, 1);
