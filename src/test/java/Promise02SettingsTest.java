@@ -5,6 +5,8 @@ public final class Promise02SettingsTest {
         limits(check);
         refusedChangesNothing(check);
         onlySamplesAreGone(check);
+        roomAgainWhereItWasFull(check);
+        fewerChannelsThanBefore(check);
         check.end();
     }
 
@@ -58,5 +60,25 @@ public final class Promise02SettingsTest {
         check.due("bytes collected stay", x.count(3), 1);
         check.due("samples read stay", x.value(1), -100);
         check.due("channels read stay", x.count(5), 2);
+    }
+
+    private static void roomAgainWhereItWasFull(Check check) {
+        BlockSound x = Told.of(1, 16, new int[400]);
+        check.due("full", x.sample(1), BlockSound.BAD);
+        check.due("settings(1, 65)", x.settings(1, 65), false);
+        check.due("full still", x.sample(1), BlockSound.BAD);
+        check.due("settings(1, 16)", x.settings(1, 16), true);
+        check.due("room again", x.sample(1), 1);
+        check.due("count(0)", x.count(0), 1);
+    }
+
+    /** More than one channel may hold were told: none of them is left over. */
+    private static void fewerChannelsThanBefore(Check check) {
+        BlockSound x = Told.of(2, 64, new int[450]);
+        check.due("count(0) of two channels", x.count(0), 450);
+        check.due("settings(1, 1)", x.settings(1, 1), true);
+        check.due("count(0)", x.count(0), 0);
+        check.due("the first sample", x.sample(-3), 1);
+        Streams.written(check, "one channel", x, Bits.head(1, 1, 1).block(0, 1, -3).end());
     }
 }

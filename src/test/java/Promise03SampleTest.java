@@ -5,6 +5,8 @@ public final class Promise03SampleTest {
         limits(check);
         fourHundred(check);
         twoChannelsHoldMore(check);
+        refusedIsNotTold(check);
+        refusedKeepsTheTurn(check);
         check.end();
     }
 
@@ -44,5 +46,22 @@ public final class Promise03SampleTest {
         x.take();
         check.due("read()", x.read(), 500);
         check.due("same()", x.same(), true);
+    }
+
+    /** The 401st sample is not there when it is written. */
+    private static void refusedIsNotTold(Check check) {
+        BlockSound x = Told.of(1, 64, new int[400]);
+        check.due("sample 401", x.sample(1), BlockSound.BAD);
+        Streams.written(check, "400 samples", x,
+                Bits.head(1, 64, 400).raw("0100".repeat(7)).end());
+    }
+
+    /** A sample that is none takes no channel's place. */
+    private static void refusedKeepsTheTurn(Check check) {
+        BlockSound x = Told.of(2, 1, 1);
+        check.due("sample(32768)", x.sample(32768), BlockSound.BAD);
+        check.due("sample(-1)", x.sample(-1), 2);
+        Streams.written(check, "two samples", x,
+                Bits.head(2, 1, 1).block(0, 0, 1).block(0, 0, -1).end());
     }
 }

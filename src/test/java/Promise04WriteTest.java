@@ -11,16 +11,13 @@ public final class Promise04WriteTest {
         cutToWholeTurns();
         blocksByTurns();
         writtenAnew();
+        afterARefusedCall();
+        mostOfOneChannel();
         check.end();
     }
 
     private static void written(String what, BlockSound x, Bits due) {
-        int[] bytes = due.bytes();
-        check.due(what + ": write()", x.write(), bytes.length);
-        check.due(what + ": count(1)", x.count(1), bytes.length);
-        for (int i = 0; i < bytes.length; i++) {
-            check.due(what + ": at(" + i + ")", x.at(i), bytes[i]);
-        }
+        Streams.written(check, what, x, due);
     }
 
     private static void emptyStreams() {
@@ -93,5 +90,29 @@ public final class Promise04WriteTest {
         check.due("a byte of before", x.at(5), BlockSound.BAD);
         check.due("blocks of before", x.count(2), 0);
         check.due("block(0, 0)", x.block(0, 0), BlockSound.BAD);
+    }
+
+    private static void afterARefusedCall() {
+        BlockSound x = Told.of(1, 2, 1, 2);
+        x.settings(2, 65);
+        x.sample(32768);
+        x.block(0, 9);
+        written("after refused calls", x, Bits.head(1, 2, 2).block(2, 0, 1, 0).end());
+    }
+
+    /** 400 samples, each a block, and each block as long as it can be. */
+    private static void mostOfOneChannel() {
+        BlockSound x = new BlockSound();
+        x.settings(1, 1);
+        for (int t = 0; t < 400; t++) {
+            x.sample(t / 4 % 2 == 0 ? 32767 : -32768);
+        }
+        int size = x.write();
+        check.due("blocks", x.count(2), 400);
+        check.due("the last byte is there", x.at(size - 1) >= 0, true);
+        check.due("none behind", x.at(size), BlockSound.BAD);
+        check.due("take()", x.take(), size);
+        check.due("read()", x.read(), 400);
+        check.due("same()", x.same(), true);
     }
 }

@@ -5,8 +5,11 @@ public final class Promise06BlockTest {
     public static void main(String[] args) {
         check = new Check("Promise06BlockTest");
         ordinary();
-        wrong();
+        blocksThatAreNone();
+        whatIsNone();
         written();
+        noBlocks();
+        fewerBlocksThanBefore();
         check.end();
     }
 
@@ -31,13 +34,19 @@ public final class Promise06BlockTest {
         due(x, 4, -1, -1, -1, -1);
     }
 
-    private static void wrong() {
+    private static void blocksThatAreNone() {
         BlockSound x = two();
         x.write();
-        int[] edges = {Integer.MIN_VALUE, -1, 4, Integer.MAX_VALUE};
-        for (int edge : edges) {
-            check.due("block(" + edge + ", 0)", x.block(edge, 0), BlockSound.BAD);
-            check.due("block(0, " + edge + ")", x.block(0, edge), BlockSound.BAD);
+        for (int i : new int[] {Integer.MIN_VALUE, -1, 4, 5, Integer.MAX_VALUE}) {
+            due(x, i, -1, -1, -1, -1);
+        }
+    }
+
+    private static void whatIsNone() {
+        BlockSound x = two();
+        x.write();
+        for (int what : new int[] {Integer.MIN_VALUE, -1, 4, 5, Integer.MAX_VALUE}) {
+            check.due("block(1, " + what + ")", x.block(1, what), BlockSound.BAD);
         }
     }
 
@@ -53,5 +62,23 @@ public final class Promise06BlockTest {
         due(x, 1, 1, 1, 0, 11);
         x.cost(0, 3, 3);
         due(x, 2, 0, 0, 3, 13);
+    }
+
+    private static void noBlocks() {
+        BlockSound x = Told.of(2, 2, 4);
+        x.write();
+        check.due("blocks of one sample of two channels", x.count(2), 0);
+        due(x, 0, -1, -1, -1, -1);
+    }
+
+    private static void fewerBlocksThanBefore() {
+        BlockSound x = two();
+        x.write();
+        x.settings(1, 64);
+        x.sample(0);
+        x.write();
+        due(x, 0, 0, 4, BlockSound.BAD, 4);
+        due(x, 1, -1, -1, -1, -1);
+        due(x, 3, -1, -1, -1, -1);
     }
 }

@@ -7,8 +7,13 @@ public final class Promise07CostTest {
         everyWay();
         meanBlocks();
         greatest();
-        wrong();
+        blocksThatAreNone();
+        functionsThatAreNone();
+        ksThatAreNone();
         written();
+        noBlocks();
+        fewerBlocksThanBefore();
+        chosenWayCostsItsBits();
         check.end();
     }
 
@@ -53,18 +58,34 @@ public final class Promise07CostTest {
         check.due("the dearest way", x.cost(0, 3, 0), due);
     }
 
-    private static void wrong() {
-        BlockSound x = Told.of(2, 4, 1, 2, 3, 4);
+    private static BlockSound two() {
+        return Told.of(2, 4, 1, 2, 3, 4);
+    }
+
+    private static void blocksThatAreNone() {
+        BlockSound x = two();
         check.due("cost before writing", x.cost(0, 0, 0), BlockSound.BAD);
         x.write();
-        int[] edges = {Integer.MIN_VALUE, -1, 16, Integer.MAX_VALUE};
-        for (int edge : edges) {
-            check.due("cost(" + edge + ", 0, 0)", x.cost(edge, 0, 0), BlockSound.BAD);
-            check.due("cost(0, " + edge + ", 0)", x.cost(0, edge, 0), BlockSound.BAD);
-            check.due("cost(0, 0, " + edge + ")", x.cost(0, 0, edge), BlockSound.BAD);
+        for (int i : new int[] {Integer.MIN_VALUE, -1, 2, 3, Integer.MAX_VALUE}) {
+            check.due("cost(" + i + ", 0, 0)", x.cost(i, 0, 0), BlockSound.BAD);
         }
-        check.due("cost(2, 0, 0)", x.cost(2, 0, 0), BlockSound.BAD);
         check.due("cost(1, 3, 15)", x.cost(1, 3, 15), 8 + 2 * 16);
+    }
+
+    private static void functionsThatAreNone() {
+        BlockSound x = two();
+        x.write();
+        for (int f : new int[] {Integer.MIN_VALUE, -1, 4, 5, Integer.MAX_VALUE}) {
+            check.due("cost(0, " + f + ", 0)", x.cost(0, f, 0), BlockSound.BAD);
+        }
+    }
+
+    private static void ksThatAreNone() {
+        BlockSound x = two();
+        x.write();
+        for (int k : new int[] {Integer.MIN_VALUE, -1, 16, 17, 32, Integer.MAX_VALUE}) {
+            check.due("cost(0, 0, " + k + ")", x.cost(0, 0, k), BlockSound.BAD);
+        }
     }
 
     private static void written() {
@@ -76,5 +97,39 @@ public final class Promise07CostTest {
         x.sample(1);
         check.due("cost after other samples", x.cost(1, 2, 3), before);
         check.due("cost of all blocks of before", x.cost(0, 0, 15) > 0, true);
+    }
+
+    private static void noBlocks() {
+        BlockSound x = Told.of(2, 2, 4);
+        x.write();
+        check.due("cost(0, 0, 0) without blocks", x.cost(0, 0, 0), BlockSound.BAD);
+    }
+
+    private static void fewerBlocksThanBefore() {
+        BlockSound x = Told.of(1, 1, 4, 5, 6);
+        x.write();
+        check.due("cost(2, 1, 0)", x.cost(2, 1, 0), 3 + 4 + 3);
+        check.due("cost(3, 1, 0)", x.cost(3, 1, 0), BlockSound.BAD);
+        x.settings(1, 1);
+        x.sample(4);
+        x.write();
+        check.due("cost(0, 1, 0) of one block", x.cost(0, 1, 0), 3 + 4 + 9);
+        check.due("cost(1, 1, 0) of one block", x.cost(1, 1, 0), BlockSound.BAD);
+        check.due("cost(2, 1, 0) of one block", x.cost(2, 1, 0), BlockSound.BAD);
+    }
+
+    /** No way is shorter than the one that was taken. */
+    private static void chosenWayCostsItsBits() {
+        BlockSound x = Told.of(2, 2, 9, 9, -30, 9, 31, 9, 0, 9);
+        x.write();
+        for (int i = 0; i < 4; i++) {
+            int bits = x.block(i, 3);
+            check.due("block " + i, x.cost(i, x.block(i, 1), x.block(i, 2)), bits);
+            for (int f = 0; f <= 3; f++) {
+                for (int k = 0; k <= 15; k++) {
+                    check.due("another way", x.cost(i, f, k) >= bits, true);
+                }
+            }
+        }
     }
 }

@@ -6,6 +6,7 @@ public final class Promise09TakeTest {
         nothingWritten(check);
         aCopy(check);
         longest(check);
+        inThePlaceOfShorterAndLonger(check);
         check.end();
     }
 
@@ -46,6 +47,21 @@ public final class Promise09TakeTest {
         x.take();
         check.due("read() of what was written later", x.read(), 2);
         check.due("same()", x.same(), true);
+    }
+
+    private static void inThePlaceOfShorterAndLonger(Check check) {
+        BlockSound x = Told.of(1, 1, 3, 1, 4);
+        int size = x.write();
+        x.feed(1);
+        check.due("take() for one byte", x.take(), size);
+        check.due("read()", x.read(), 3);
+        for (int i = 0; i < 100; i++) {
+            x.feed(255);
+        }
+        check.due("take() for a hundred", x.take(), size);
+        check.due("count(3)", x.count(3), size);
+        check.due("read() of it", x.read(), 3);
+        check.due("read() of nothing", x.read(), -1);
     }
 
     private static void longest(Check check) {

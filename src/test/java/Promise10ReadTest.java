@@ -15,19 +15,11 @@ public final class Promise10ReadTest {
     }
 
     private static void right(String what, Bits bits, int... samples) {
-        BlockSound x = new BlockSound();
-        check.due(what, bits.readBy(x), samples.length);
-        for (int i = 0; i < samples.length; i++) {
-            check.due(what + ": value(" + i + ")", x.value(i), samples[i]);
-        }
-        check.due(what + ": what was collected is gone", x.count(3), 0);
+        Streams.right(check, what, bits, samples);
     }
 
     private static void wrong(String what, Bits bits, int bit) {
-        BlockSound x = new BlockSound();
-        check.due(what, bits.readBy(x), -1 - bit);
-        check.due(what + ": what was collected is gone", x.count(3), 0);
-        check.due(what + ": nothing was read", x.count(5), 0);
+        Streams.wrong(check, what, bits, bit);
     }
 
     private static void rightStreams() {

@@ -6,6 +6,9 @@ public final class Promise12SameTest {
         ordinary(check);
         channels(check);
         cut(check);
+        cutToNothing(check);
+        oneSampleDiffers(check);
+        fewerThanBefore(check);
         check.end();
     }
 
@@ -83,5 +86,43 @@ public final class Promise12SameTest {
         check.due("three of two channels", x.same(), true);
         x.sample(4);
         check.due("four of two channels", x.same(), false);
+    }
+
+    /** One sample of two channels is none, and so are those of a stream without samples. */
+    private static void cutToNothing(Check check) {
+        BlockSound x = Told.of(2, 4, 7);
+        check.due("before reading", x.same(), false);
+        Bits.head(2, 9, 0).end().readBy(x);
+        check.due("cut to no samples", x.same(), true);
+        Bits.head(1, 9, 0).end().readBy(x);
+        check.due("of one channel", x.same(), false);
+        Bits.head(2, 9, 1).block(0, 3, 7).u(2, 4).end().readBy(x);
+        check.due("one of each channel", x.same(), false);
+        x.sample(0);
+        check.due("the other one told", x.same(), true);
+    }
+
+    private static void oneSampleDiffers(Check check) {
+        for (int other = 0; other < 5; other++) {
+            int[] samples = {1, 2, 3, 4, 5};
+            samples[other]++;
+            BlockSound x = Told.of(1, 5, samples);
+            Bits.head(1, 5, 5).block(0, 3, 1, 2, 3, 4, 5).end().readBy(x);
+            check.due("sample " + other + " differs", x.same(), false);
+        }
+    }
+
+    /** What is left in rows of before does not count. */
+    private static void fewerThanBefore(Check check) {
+        BlockSound x = Told.of(1, 5, 1, 2, 3);
+        x.write();
+        x.take();
+        x.read();
+        x.settings(1, 5);
+        x.sample(1);
+        x.sample(2);
+        check.due("two of three", x.same(), false);
+        Bits.head(1, 5, 2).block(0, 3, 1, 2).end().readBy(x);
+        check.due("two of two", x.same(), true);
     }
 }
