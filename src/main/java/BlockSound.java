@@ -31,6 +31,7 @@ public final class BlockSound {
     private static final int LARGEST_K = 15;
     private static final int MEANS_BEHIND = 4;
     private static final int NOWHERE = -1;
+    private static final int NO_LIMIT = 0x7fffffff;
 
     private final Sound told = new Sound(1, 16);
     private final StreamWriter writer = new StreamWriter();
@@ -437,7 +438,7 @@ public final class BlockSound {
                 ks[i] = BAD;
                 return;
             }
-            int fewest = Integer.MAX_VALUE;
+            int fewest = NO_LIMIT;
             for (int f = 0; f < FUNCTIONS_WITH_REST; f++) {
                 findRests(i, f);
                 for (int k = 0; k <= LARGEST_K; k++) {
@@ -554,7 +555,7 @@ public final class BlockSound {
             int size = draft.blockSize(i);
             for (int j = 0; j < size && isRight(); j++) {
                 int first = bits.position;
-                int rest = f == MEAN_ONLY ? 0 : unfold(nextWithin(k, 0, Integer.MAX_VALUE));
+                int rest = f == MEAN_ONLY ? 0 : unfold(nextWithin(k, 0, NO_LIMIT));
                 int v = draft.toldAhead(f, place, mean) + rest;
                 if (isRight() && !isSample(v)) {
                     wrongBit = first;
